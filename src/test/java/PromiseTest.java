@@ -136,6 +136,15 @@ public final class PromiseTest {
         check.due("undo", 3, () -> x.undo());
         check.due("conditions after undo", 4, () -> x.whole(0));
         check.due("sets after undo", 0x3f71, () -> x.row(0, 5));
+        AskedRules full = new AskedRules();
+        for (int i = 0; i < 20; i++) {
+            full.addRow(0, i % 10);
+        }
+        check.due("with twenty rows", 0, () -> full.addCondition(4, 1));
+        check.due("sets of the last", 15, () -> full.row(19, 5));
+        check.due("cases of the last", 4, () -> full.row(19, 2));
+        check.due("needed rows", 1, () -> full.whole(6));
+        check.index("no row", () -> full.row(20, 5));
     }
 
     private static void setCost() {
@@ -259,6 +268,7 @@ public final class PromiseTest {
         check.index("it is gone", () -> x.dropRow(1));
         order(x, 0, 2, 3);
         check.due("place", 2, () -> x.dropRow(3));
+        check.index("the last one is gone", () -> x.dropRow(3));
         check.due("place", 0, () -> x.dropRow(0));
         order(x, 2);
         check.due("action", 2, () -> x.caseOf(1, 1));
@@ -430,9 +440,16 @@ public final class PromiseTest {
         }
         x.moveUp(3);
         x.moveUp(3);
+        check.due("its cases then", 1, () -> x.row(3, 3));
         check.due("place", 1, () -> x.row(3, 0));
-        check.due("its cases", 1, () -> x.row(3, 3));
         check.due("needed no more", 0, () -> x.row(1, 4));
+        check.due("its cases at the first place", 4, () -> x.row(0, 3));
+        x.setAnswers(0, 1, 1);
+        check.due("fewer cases, asked first", 2, () -> x.row(0, 3));
+        x.setAnswers(0, 0, 7);
+        check.due("more cases, asked first", 3, () -> x.row(0, 3));
+        x.dropRow(3);
+        check.due("needed again, asked first", 1, () -> x.row(1, 4));
         AskedRules none = new AskedRules();
         none.addRow(0, 1);
         check.due("tells the case 0", 1, () -> none.row(0, 2));
@@ -554,6 +571,12 @@ public final class PromiseTest {
         x.addRow(0x73, 9);
         check.due("no hole, other actions", 3, () -> x.whole(9));
         check.due("no holes", 0, () -> x.whole(3));
+        check.due("overlaps then", 4, () -> x.whole(4));
+        check.due("conflicts then", 4, () -> x.whole(5));
+        x.dropRow(5);
+        check.due("overlaps as before", 2, () -> x.whole(4));
+        check.due("conflicts as before", 1, () -> x.whole(5));
+        check.due("holes as before", 2, () -> x.whole(3));
     }
 
     private static void worstCost() {
@@ -585,8 +608,8 @@ public final class PromiseTest {
         check.due("any can begin", 0, () -> y.whole(8));
         y.dropRow(3);
         y.setAnswers(2, 0, 3);
-        check.due("worst cost", 6, () -> y.whole(7));
         check.due("second can begin", 1, () -> y.whole(8));
+        check.due("worst cost", 6, () -> y.whole(7));
     }
 
     // ---- promises 20 to 24
@@ -774,6 +797,21 @@ public final class PromiseTest {
         order(x, 2, 0);
         check.due("sets", 0x27, () -> x.row(2, 5));
         check.due("action", 5, () -> x.row(2, 1));
+        AskedRules sets = with(4, 3);
+        write(sets, "if 1,2>4;if 013,12>3;if 0123,->0;");
+        check.due("carried out", 3, () -> sets.runCommands());
+        check.due("sets", 0x42, () -> sets.row(0, 5));
+        check.due("sets", 0x6b, () -> sets.row(1, 5));
+        check.due("sets", 0x7f, () -> sets.row(2, 5));
+        check.due("action", 4, () -> sets.row(0, 1));
+        check.due("action", 0, () -> sets.row(2, 1));
+        AskedRules many = new AskedRules();
+        for (int i = 0; i < 13; i++) {
+            many.addRow(0, 1);
+        }
+        write(many, "drop 12;up 11;up 11;drop 09;up 13;");
+        check.due("carried out", 4, () -> many.runCommands());
+        order(many, 0, 1, 2, 3, 4, 5, 6, 7, 8, 11, 10);
         check.due("added", 3, () -> x.whole(10));
         check.due("the text stays", 39, () -> x.whole(11));
         check.due("one state is saved", 3, () -> x.undo());
@@ -800,6 +838,21 @@ public final class PromiseTest {
         faultAt("merge;;", 6);
         faultAt("  If >1;", 2);
         faultAt("ifx >1;", 0);
+        faultAt("ifa >1;", 0);
+        faultAt("ifz >1;", 0);
+        faultAt("if` >1;", 2);
+        faultAt("if{ >1;", 2);
+        faultAt("a", 0);
+        faultAt("f >1;", 0);
+        faultAt("xf >1;", 0);
+        faultAt("xp 1;", 0);
+        faultAt("xrop 1;", 0);
+        faultAt("xerge;", 0);
+        faultAt("dropp 1;", 0);
+        faultAt("if 0;", 4, 2);
+        faultAt("if ;", 3);
+        faultAt("if 0>;", 5, 2);
+        faultAt("if >;", 4);
         faultAt("me", 0);
         faultAt("mer ge;", 0);
         faultAt(" merges;", 1);
