@@ -450,6 +450,8 @@ public final class PromiseTest {
         check.due("more cases, asked first", 3, () -> x.row(0, 3));
         x.dropRow(3);
         check.due("needed again, asked first", 1, () -> x.row(1, 4));
+        x.setAnswers(0, 1, 15);
+        check.due("needed no more, asked first", 0, () -> x.row(1, 4));
         AskedRules none = new AskedRules();
         none.addRow(0, 1);
         check.due("tells the case 0", 1, () -> none.row(0, 2));
