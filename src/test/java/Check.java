@@ -5,11 +5,18 @@ final class Check {
     }
 
     private final String test;
+    /** The sentence of the document that is looked at, or nothing. */
+    private String sentence = "";
     private int done;
     private int wrong;
 
     Check(String test) {
         this.test = test;
+    }
+
+    /** What follows is about this sentence of the document, and is reported with it. */
+    void about(String itsSentence) {
+        sentence = " [" + itsSentence + "]";
     }
 
     void due(String call, long want, long got) {
@@ -49,7 +56,7 @@ final class Check {
     void report(String text) {
         wrong++;
         if (wrong <= 40) {
-            System.out.println(test + ": " + text);
+            System.out.println(test + sentence + ": " + text);
         }
     }
 

@@ -43,30 +43,15 @@ public final class PromiseTest {
 
     // ---- helpers
 
-    private static AskedRules with(int... answers) {
-        AskedRules x = new AskedRules();
-        for (int k : answers) {
-            x.addCondition(k, 1);
-        }
-        return x;
-    }
-
-    private static void write(AskedRules x, String text) {
-        x.clearCommands();
-        for (int i = 0; i < text.length(); i++) {
-            x.type(text.charAt(i));
-        }
-    }
-
     private static void runs(String text, int want, int... answers) {
-        AskedRules x = with(answers);
-        write(x, text);
+        AskedRules x = Tables.with(answers);
+        Tables.write(x, text);
         check.due("runCommands of '" + text + "'", want, () -> x.runCommands());
     }
 
     private static void faultAt(String text, int fault, int... answers) {
-        AskedRules x = with(answers);
-        write(x, text);
+        AskedRules x = Tables.with(answers);
+        Tables.write(x, text);
         long before = x.digest();
         check.due("runCommands of '" + text + "'", -10 - fault, () -> x.runCommands());
         check.due("digest after the fault of '" + text + "'", before, () -> x.digest());
@@ -79,18 +64,6 @@ public final class PromiseTest {
         }
         check.due("rowAt behind the last", -1, () -> x.rowAt(rows.length));
         check.due("rows", rows.length, () -> x.whole(2));
-    }
-
-    private static int states(AskedRules x) {
-        int states = 0;
-        while (true) {
-            try {
-                x.undo();
-                states++;
-            } catch (IllegalStateException e) {
-                return states;
-            }
-        }
     }
 
     // ---- promises 1 to 11
@@ -148,7 +121,7 @@ public final class PromiseTest {
     }
 
     private static void setCost() {
-        AskedRules x = with(2, 3);
+        AskedRules x = Tables.with(2, 3);
         check.index("no condition", () -> x.setCost(2, 1));
         check.index("negative", () -> x.setCost(-1, 1));
         check.index("no condition and wrong", () -> x.setCost(2, 0));
@@ -190,13 +163,13 @@ public final class PromiseTest {
         check.due("next", 2, () -> x.addRow(0x24, 9));
         check.due("action", 9, () -> x.row(2, 1));
         order(x, 1, 2);
-        AskedRules full = with(4, 4, 4, 4, 4);
+        AskedRules full = Tables.with(4, 4, 4, 4, 4);
         check.due("all answers of five", 0, () -> full.addRow(0xfffff, 1));
         check.argument("beyond five", () -> full.addRow(0x1fffff, 1));
     }
 
     private static void addRowNumbers() {
-        AskedRules x = with(2);
+        AskedRules x = Tables.with(2);
         for (int i = 0; i < 20; i++) {
             int number = i;
             check.due("row", number, () -> x.addRow(1, 1));
@@ -215,7 +188,7 @@ public final class PromiseTest {
     }
 
     private static void setAnswers() {
-        AskedRules x = with(2, 3, 4);
+        AskedRules x = Tables.with(2, 3, 4);
         x.addRow(0x111, 1);
         check.index("no row", () -> x.setAnswers(1, 0, 1));
         check.index("no row", () -> x.setAnswers(-1, 0, 1));
@@ -240,7 +213,7 @@ public final class PromiseTest {
     }
 
     private static void setAction() {
-        AskedRules x = with(2);
+        AskedRules x = Tables.with(2);
         x.addRow(1, 4);
         x.addRow(2, 5);
         check.index("no row", () -> x.setAction(2, 1));
@@ -258,7 +231,7 @@ public final class PromiseTest {
     }
 
     private static void dropRow() {
-        AskedRules x = with(2);
+        AskedRules x = Tables.with(2);
         for (int i = 0; i < 4; i++) {
             x.addRow(3, i);
         }
@@ -280,7 +253,7 @@ public final class PromiseTest {
     }
 
     private static void moveUp() {
-        AskedRules x = with(2);
+        AskedRules x = Tables.with(2);
         x.addRow(1, 5);
         x.addRow(2, 6);
         x.addRow(3, 7);
@@ -301,7 +274,7 @@ public final class PromiseTest {
     }
 
     private static void merge() {
-        AskedRules x = with(3, 2);
+        AskedRules x = Tables.with(3, 2);
         x.addRow(0x11, 1);
         x.addRow(0x12, 1);
         x.addRow(0x24, 1);
@@ -333,7 +306,7 @@ public final class PromiseTest {
     }
 
     private static void mergeAll() {
-        AskedRules x = with(4, 2);
+        AskedRules x = Tables.with(4, 2);
         check.due("no rows", 0, () -> x.mergeAll());
         x.addRow(0x11, 1);
         x.addRow(0x12, 1);
@@ -349,7 +322,7 @@ public final class PromiseTest {
         x.undo();
         check.due("undo of one", 4, () -> x.whole(2));
         // the first pair goes first: 0 with 1, and what comes of it cannot be merged with 2
-        AskedRules y = with(2, 2);
+        AskedRules y = Tables.with(2, 2);
         y.addRow(0x11, 1);
         y.addRow(0x12, 1);
         y.addRow(0x22, 1);
@@ -357,7 +330,7 @@ public final class PromiseTest {
         order(y, 0, 2);
         check.due("sets", 0x13, () -> y.row(0, 5));
         // a merge further down opens the way for one in front of it
-        AskedRules z = with(2, 2);
+        AskedRules z = Tables.with(2, 2);
         z.addRow(0x13, 1);
         z.addRow(0x21, 1);
         z.addRow(0x22, 1);
@@ -372,7 +345,7 @@ public final class PromiseTest {
     }
 
     private static void prune() {
-        AskedRules x = with(3);
+        AskedRules x = Tables.with(3);
         check.due("no rows", 0, () -> x.prune());
         x.addRow(3, 1);
         x.addRow(2, 2);
@@ -392,7 +365,7 @@ public final class PromiseTest {
     // ---- promises 12 to 19
 
     private static void condition() {
-        AskedRules x = with(2, 4, 3);
+        AskedRules x = Tables.with(2, 4, 3);
         check.index("no condition", () -> x.condition(3, 0));
         check.index("no condition", () -> x.condition(-1, 0));
         check.index("no condition and wrong", () -> x.condition(3, 3));
@@ -414,13 +387,13 @@ public final class PromiseTest {
         check.due("alike now", 0, () -> x.condition(2, 2));
         x.addRow(0x111, 5);
         check.due("what is hidden does not matter", 0, () -> x.condition(0, 2));
-        AskedRules one = with(3);
+        AskedRules one = Tables.with(3);
         one.addRow(4, 0);
         check.due("a hole counts as an action", 1, () -> one.condition(0, 2));
     }
 
     private static void row() {
-        AskedRules x = with(3, 4);
+        AskedRules x = Tables.with(3, 4);
         x.addRow(0x35, 4);
         x.addRow(0x61, 5);
         x.addRow(0x22, 6);
@@ -459,7 +432,7 @@ public final class PromiseTest {
     }
 
     private static void answers() {
-        AskedRules x = with(2, 3, 4);
+        AskedRules x = Tables.with(2, 3, 4);
         x.addRow(0x961, 1);
         x.addRow(0x123, 1);
         check.due("first", 1, () -> x.answers(0, 0));
@@ -473,7 +446,7 @@ public final class PromiseTest {
     }
 
     private static void rowAt() {
-        AskedRules x = with(2);
+        AskedRules x = Tables.with(2);
         check.argument("negative", () -> x.rowAt(-1));
         check.argument("negative", () -> x.rowAt(Integer.MIN_VALUE));
         check.due("none", -1, () -> x.rowAt(0));
@@ -489,7 +462,7 @@ public final class PromiseTest {
     }
 
     private static void caseOf() {
-        AskedRules x = with(2, 2);
+        AskedRules x = Tables.with(2, 2);
         x.addRow(0x31, 4);
         x.addRow(0x11, 4);
         x.addRow(0x23, 5);
@@ -518,13 +491,13 @@ public final class PromiseTest {
         third.addRow(0, 2);
         check.due("conflict by the third", 1, () -> third.caseOf(0, 3));
         check.index("without conditions", () -> third.caseOf(1, 0));
-        AskedRules big = with(4, 4, 4, 4, 4);
+        AskedRules big = Tables.with(4, 4, 4, 4, 4);
         check.due("last of all", 10, () -> big.caseOf(1023, 1));
         check.index("behind it", () -> big.caseOf(1024, 1));
     }
 
     private static void answerOf() {
-        AskedRules x = with(2, 3, 4);
+        AskedRules x = Tables.with(2, 3, 4);
         check.due("of 17", 1, () -> x.answerOf(17, 0));
         check.due("of 17", 2, () -> x.answerOf(17, 1));
         check.due("of 17", 2, () -> x.answerOf(17, 2));
@@ -541,7 +514,7 @@ public final class PromiseTest {
     }
 
     private static void hole() {
-        AskedRules x = with(4);
+        AskedRules x = Tables.with(4);
         x.addRow(2, 1);
         check.argument("negative", () -> x.hole(-1));
         check.due("first", 0, () -> x.hole(0));
@@ -554,7 +527,7 @@ public final class PromiseTest {
     }
 
     private static void whole() {
-        AskedRules x = with(2, 3);
+        AskedRules x = Tables.with(2, 3);
         check.argument("-1", () -> x.whole(-1));
         check.argument("12", () -> x.whole(12));
         x.addRow(0x11, 1);
@@ -617,7 +590,7 @@ public final class PromiseTest {
     // ---- promises 20 to 24
 
     private static void reason() {
-        AskedRules x = with(2, 2, 2);
+        AskedRules x = Tables.with(2, 2, 2);
         x.addRow(0x111, 1);
         x.addRow(0x112, 1);
         x.addRow(0x112, 1);
@@ -669,7 +642,7 @@ public final class PromiseTest {
         long before = x.digest();
         x.ask(0x010);
         check.due("asking changes nothing", before, () -> x.digest());
-        AskedRules five = with(4, 4, 4, 4, 4);
+        AskedRules five = Tables.with(4, 4, 4, 4, 4);
         five.addRow(0x8ffff, 1);
         check.due("the fifth decides", 4, () -> five.ask(0x04444));
         check.due("the fifth is known", -1, () -> five.ask(0x40000));
@@ -704,7 +677,7 @@ public final class PromiseTest {
     }
 
     private static void changedWithout() {
-        AskedRules x = with(4);
+        AskedRules x = Tables.with(4);
         x.addRow(7, 1);
         x.addRow(1, 1);
         x.addRow(2, 2);
@@ -729,7 +702,7 @@ public final class PromiseTest {
         none.addRow(0, 3);
         check.due("no hole", -1, () -> none.bestAction(0));
         check.index("no case", () -> none.bestAction(1));
-        AskedRules x = with(2, 2);
+        AskedRules x = Tables.with(2, 2);
         x.addRow(0x32, 4);
         x.addRow(0x11, 7);
         check.index("no case", () -> x.bestAction(4));
@@ -745,7 +718,7 @@ public final class PromiseTest {
         x.setAction(1, 4);
         check.due("4 spares all", 4, () -> x.bestAction(2));
         // with 20 rows none could be added, but the action is told
-        AskedRules full = with(2);
+        AskedRules full = Tables.with(2);
         for (int i = 0; i < 20; i++) {
             full.addRow(2, 9);
         }
@@ -773,12 +746,12 @@ public final class PromiseTest {
     private static void clearCommands() {
         AskedRules x = new AskedRules();
         check.due("empty", 0, () -> x.clearCommands());
-        write(x, "merge;x");
+        Tables.write(x, "merge;x");
         check.due("its length", 7, () -> x.clearCommands());
         check.due("empty then", 0, () -> x.whole(11));
         check.due("no fault then", 0, () -> x.runCommands());
         AskedRules y = new AskedRules();
-        write(y, "merge;");
+        Tables.write(y, "merge;");
         y.clearCommands();
         check.state("it is not undoable", () -> y.undo());
     }
@@ -792,15 +765,15 @@ public final class PromiseTest {
         runs("if >0;up 00;", 1);
         runs("if -,-,-,-,->9;if 1,23,013,0,2>0;", 2, 2, 4, 4, 2, 3);
         runs("if 0123>1;if 0>2;drop 00;drop 1;", 4, 4);
-        AskedRules x = with(3, 2);
+        AskedRules x = Tables.with(3, 2);
         x.addRow(0x11, 9);
-        write(x, "if 02,->4; if -,1>5;up 2;up 02;drop 1; ");
+        Tables.write(x, "if 02,->4; if -,1>5;up 2;up 02;drop 1; ");
         check.due("carried out", 5, () -> x.runCommands());
         order(x, 2, 0);
         check.due("sets", 0x27, () -> x.row(2, 5));
         check.due("action", 5, () -> x.row(2, 1));
-        AskedRules sets = with(4, 3);
-        write(sets, "if 1,2>4;if 013,12>3;if 0123,->0;");
+        AskedRules sets = Tables.with(4, 3);
+        Tables.write(sets, "if 1,2>4;if 013,12>3;if 0123,->0;");
         check.due("carried out", 3, () -> sets.runCommands());
         check.due("sets", 0x42, () -> sets.row(0, 5));
         check.due("sets", 0x6b, () -> sets.row(1, 5));
@@ -811,7 +784,7 @@ public final class PromiseTest {
         for (int i = 0; i < 13; i++) {
             many.addRow(0, 1);
         }
-        write(many, "drop 12;up 11;up 11;drop 09;up 13;");
+        Tables.write(many, "drop 12;up 11;up 11;drop 09;up 13;");
         check.due("carried out", 4, () -> many.runCommands());
         order(many, 0, 1, 2, 3, 4, 5, 6, 7, 8, 11, 10);
         check.due("added", 3, () -> x.whole(10));
@@ -821,8 +794,8 @@ public final class PromiseTest {
         check.due("numbers are used again", 1, () -> x.whole(10));
         check.due("the text stays", 39, () -> x.whole(11));
         check.due("again", 5, () -> x.runCommands());
-        AskedRules m = with(2, 2);
-        write(m, "if 0,0>1;if 1,0>1;if -,1>1;merge;");
+        AskedRules m = Tables.with(2, 2);
+        Tables.write(m, "if 0,0>1;if 1,0>1;if -,1>1;merge;");
         check.due("merge", 4, () -> m.runCommands());
         order(m, 0);
         check.due("sets", 0x33, () -> m.row(0, 5));
@@ -921,28 +894,28 @@ public final class PromiseTest {
     }
 
     private static void commandsThatStop() {
-        AskedRules x = with(2);
-        write(x, "if 0>1;drop 1;if 1>2;");
+        AskedRules x = Tables.with(2);
+        Tables.write(x, "if 0>1;drop 1;if 1>2;");
         check.due("no row to drop", 1, () -> x.runCommands());
         order(x, 0);
-        write(x, "up 0;if 1>2;");
+        Tables.write(x, "up 0;if 1>2;");
         check.due("the first goes not up", 0, () -> x.runCommands());
-        write(x, "up 9;");
+        Tables.write(x, "up 9;");
         check.due("no row to go up", 0, () -> x.runCommands());
         order(x, 0);
         check.due("a run that does nothing saves", 3, () -> x.undo());
         check.due("the others as well", 2, () -> x.undo());
         order(x, 0);
-        AskedRules full = with(2);
+        AskedRules full = Tables.with(2);
         for (int i = 0; i < 19; i++) {
             full.addRow(1, i % 2);
         }
-        write(full, "if 0>1;if 0>1;merge;");
+        Tables.write(full, "if 0>1;if 0>1;merge;");
         check.due("no room for a row", 1, () -> full.runCommands());
         check.due("rows", 20, () -> full.whole(2));
         check.due("added", 20, () -> full.whole(10));
-        AskedRules fault = with(2);
-        write(fault, "if 0>1;drop 0;x");
+        AskedRules fault = Tables.with(2);
+        Tables.write(fault, "if 0>1;drop 0;x");
         check.due("fault", -24, () -> fault.runCommands());
         check.due("nothing is done", 0, () -> fault.whole(10));
         check.due("nothing is saved", 0, () -> fault.undo());
@@ -980,43 +953,43 @@ public final class PromiseTest {
     }
 
     private static void undoOfEach() {
-        AskedRules x = with(2, 2);
-        check.due("addCondition saves", 2, states(x));
+        AskedRules x = Tables.with(2, 2);
+        check.due("addCondition saves", 2, Tables.undoAll(x));
         x.addCondition(2, 1);
         x.addRow(1, 1);
         x.setCost(0, 1);
-        check.due("setCost saves", 3, states(x));
+        check.due("setCost saves", 3, Tables.undoAll(x));
         x.addRow(0, 1);
         x.setAction(0, 1);
-        check.due("setAction saves, also if it changes nothing", 2, states(x));
+        check.due("setAction saves, also if it changes nothing", 2, Tables.undoAll(x));
         x.addCondition(2, 1);
         x.addRow(1, 1);
         x.setAnswers(0, 0, 1);
-        check.due("setAnswers saves", 3, states(x));
+        check.due("setAnswers saves", 3, Tables.undoAll(x));
         x.addRow(0, 1);
         x.dropRow(0);
-        check.due("dropRow saves", 2, states(x));
+        check.due("dropRow saves", 2, Tables.undoAll(x));
         x.addRow(0, 1);
         x.addRow(0, 1);
         x.moveUp(1);
-        check.due("moveUp saves", 3, states(x));
+        check.due("moveUp saves", 3, Tables.undoAll(x));
         x.addRow(0, 1);
         x.addRow(0, 1);
         x.merge(0);
-        check.due("merge saves", 3, states(x));
+        check.due("merge saves", 3, Tables.undoAll(x));
         x.mergeAll();
-        check.due("mergeAll saves", 1, states(x));
+        check.due("mergeAll saves", 1, Tables.undoAll(x));
         x.prune();
-        check.due("prune saves", 1, states(x));
+        check.due("prune saves", 1, Tables.undoAll(x));
         x.runCommands();
-        check.due("runCommands saves", 1, states(x));
+        check.due("runCommands saves", 1, Tables.undoAll(x));
         x.condition(x.addCondition(2, 1), 2);
         x.ask(0);
         x.costFrom(0);
         x.bestAction(0);
         x.hole(0);
         x.digest();
-        check.due("what asks does not save", 1, states(x));
+        check.due("what asks does not save", 1, Tables.undoAll(x));
     }
 
     private static void digest() {
@@ -1055,7 +1028,7 @@ public final class PromiseTest {
     }
 
     private static void throwingChangesNothing() {
-        AskedRules x = with(2, 3);
+        AskedRules x = Tables.with(2, 3);
         x.addRow(0x13, 1);
         x.addRow(0x21, 2);
         long before = x.digest();
