@@ -91,4 +91,13 @@ final class Tables {
         }
         return seen.toString();
     }
+
+    /** What the rows of a table come to, as text. */
+    static String workedOut(AskedRules x) {
+        StringBuilder values = new StringBuilder();
+        for (int what = 1; what <= 9; what++) {
+            values.append(' ').append(x.whole(what));
+        }
+        return values.append(' ').append(x.ask(0)).append(' ').append(x.costFrom(0)).toString();
+    }
 }

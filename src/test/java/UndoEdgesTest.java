@@ -47,13 +47,20 @@ public final class UndoEdgesTest {
         return x;
     }
 
-    private static AskedRules fullTable() {
+    /** All conditions and rows that there can be. */
+    private static AskedRules tableOfAllRows() {
         AskedRules x = Tables.with(4, 4, 4, 4, 4);
         for (int i = 0; i < 19; i++) {
             x.addRow(0xfffff ^ 1 << i, i % 10);
         }
         x.addRow(0x84218, 9);
         Tables.append(x, "merge;");
+        return x;
+    }
+
+    /** The same with all bytes of the text. */
+    private static AskedRules fullTable() {
+        AskedRules x = tableOfAllRows();
         for (int length = 6; length < 150; length++) {
             x.type(' ');
         }
@@ -67,6 +74,7 @@ public final class UndoEdgesTest {
         statesThatAreLeft();
         latestFourAreKept();
         savedAgainAfterUndo();
+        questionsAfterUndo();
         undoIsNotUndone();
     }
 
@@ -138,6 +146,27 @@ public final class UndoEdgesTest {
         check.state("no more", () -> x.undo());
     }
 
+    private static void questionsAfterUndo() {
+        check.about("undo: Restores the latest saved state: what is worked out from it, too");
+        AskedRules x = new AskedRules();
+        x.addCondition(2, 3);
+        x.addRow(1, 7);
+        check.due("worst cost", 3, () -> x.whole(7));
+        check.due("best action", 7, () -> x.bestAction(1));
+        x.addRow(2, 7);
+        check.due("worst cost with another row", 0, () -> x.whole(7));
+        check.due("no hole", NONE, () -> x.bestAction(1));
+        x.undo();
+        check.due("question after undo", 0, () -> x.ask(0));
+        check.due("cost after undo", 3, () -> x.costFrom(0));
+        check.due("worst cost after undo", 3, () -> x.whole(7));
+        check.due("best action after undo", 7, () -> x.bestAction(1));
+        x.undo();
+        check.due("no question after undo", NONE, () -> x.whole(8));
+        x.undo();
+        check.index("no such case after undo", () -> x.caseOf(1, 1));
+    }
+
     private static void undoIsNotUndone() {
         check.about("undo: is not marked undoable");
         AskedRules x = new AskedRules();
@@ -193,8 +222,8 @@ public final class UndoEdgesTest {
     }
 
     private static void fullStack(String call, Step step) {
-        check.about("The stack keeps the latest 4 saved states, of a full table, too: " + call);
-        comesBack(() -> fullTable(), step);
+        check.about("The stack keeps the latest 4 saved states, of 20 rows, too: " + call);
+        comesBack(() -> tableOfAllRows(), step);
     }
 
     /** Wants tables with three states or four: after one call more, four can be undone. */
@@ -202,9 +231,11 @@ public final class UndoEdgesTest {
         AskedRules x = maker.make();
         AskedRules y = maker.make();
         step.on(x);
+        Tables.workedOut(x);
         for (int left = 3; left >= 0; left--) {
             int want = left;
             check.due("left", want, () -> x.undo());
+            check.same("worked out when " + left + " are left", Tables.workedOut(y), Tables.workedOut(x));
             check.same("the table when " + left + " are left", Tables.seen(y), Tables.seen(x));
             check.due("length of the text", y.whole(11), () -> x.whole(11));
             if (left > 0) {
