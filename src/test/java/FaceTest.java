@@ -52,9 +52,12 @@ public final class FaceTest {
         "hashCode", "toString", "System.out", "Object", "Math.random", "nanoTime", "MAX_VALUE", "MIN_VALUE"
     };
 
+    private static final List<String> LIBRARY = Arrays.asList("System.arraycopy", "Integer.bitCount");
+
     public static void main(String[] args) throws Exception {
         methods();
         constructorsAndFields();
+        sizes();
         String text = Files.readString(Path.of("src/main/java/AskedRules.java"), StandardCharsets.US_ASCII);
         words(text);
         lengths(text);
@@ -116,8 +119,32 @@ public final class FaceTest {
         }
     }
 
+    /** Rule 11, and of rule 5 that all that is static is final. */
+    private static void sizes() {
+        List<Class<?>> all = new ArrayList<>(Arrays.asList(AskedRules.class.getDeclaredClasses()));
+        all.add(AskedRules.class);
+        check.same("few classes", "true", "" + (all.size() <= 12));
+        for (Class<?> each : all) {
+            int fields = 0;
+            for (Field field : each.getDeclaredFields()) {
+                boolean isStatic = Modifier.isStatic(field.getModifiers());
+                fields += isStatic ? 0 : 1;
+                check.same("field " + field, "true", "" + (!isStatic || Modifier.isFinal(field.getModifiers())));
+            }
+            check.same("few fields of " + each, "true", "" + (fields <= 20));
+            for (Method method : each.getDeclaredMethods()) {
+                check.same("few parameters of " + method, "true", "" + (method.getParameterCount() <= 7));
+            }
+        }
+    }
+
     private static void words(String text) {
         String code = text.replaceAll("(?s)/\\*.*?\\*/", "").replaceAll("//[^\n]*", "");
+        Matcher called = Pattern.compile("\\b[A-Z][A-Za-z]+\\.[a-z]\\w*(?=\\()").matcher(code);
+        while (called.find()) {
+            check.same("may be called: " + called.group(), "true", "" + LIBRARY.contains(called.group()));
+        }
+        check.same("joins texts by +", "false", "" + Pattern.compile("\" *\\+|\\+ *\"").matcher(code).find());
         for (String word : WORDS_LEFT_OUT) {
             boolean found = Pattern.compile("\\b" + Pattern.quote(word) + "\\b").matcher(code).find();
             check.same("has " + word, "false", "" + found);
